@@ -16,6 +16,7 @@ public final class PlanTest {
         nothingChanges();
         whatIsKept();
         vatsTireInAPlan();
+        dipsThatMoveNoGrain();
         wrongInputsThrow();
         checks.end();
     }
@@ -196,6 +197,26 @@ public final class PlanTest {
             }
         }
         return VatHouse.NONE;
+    }
+
+    /** Such a dip would be enough to have the LOOSE aired, but it can't be in a plan. */
+    private void dipsThatMoveNoGrain() {
+        VatHouse full = Houses.sound(10000);
+        full.cloth(1);
+        full.dip(0, 0, 20);
+        checks.due("a full CLOTH", full.plan(0, 0, 200, 3), VatHouse.NONE);
+        VatHouse sick = Houses.sound(10000);
+        sick.cloth(10);
+        sick.dip(0, 0, 1);
+        sick.feed(0, 1000);
+        checks.due("SICK VATS", sick.plan(0, 0, 200, 3), VatHouse.NONE);
+        VatHouse single = Houses.sound(101);
+        single.cloth(1);
+        checks.due("a dip of one grain", single.plan(0, 1, 1, 1), 1);
+        VatHouse thin = Houses.sound(100, 101);
+        thin.cloth(1);
+        checks.due("a dip of one grain in another", thin.plan(0, 1, 1, 1), 1);
+        checks.due("for 2 minutes in the first one", thin.planned(0, 1), 2);
     }
 
     private void wrongInputsThrow() {

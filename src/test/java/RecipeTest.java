@@ -55,6 +55,8 @@ public final class RecipeTest {
         bad(checks, "ai r;", 1, 0);
         bad(checks, "airwash;", 1, 0);
         bad(checks, "d;", 1, 0);
+        bad(checks, "airz;", 1, 0);
+        bad(checks, "aair;", 1, 0);
         bad(checks, "air; Air;", 1, 5);
         bad(checks, "air\t;", 1, 3);
         bad(checks, "air;\r", 1, 4);

@@ -21,6 +21,8 @@ public final class RunTest {
         caughtFailures();
         lastParts();
         limits();
+        deepBlocks();
+        singleGrains();
         noRuns();
         checks.end();
     }
@@ -187,6 +189,21 @@ public final class RunTest {
         freshRuns("dip 0 5;dip 0 5;", 1, ENDED, 0, 1);
         checks.due("DIPS up to the end", house.ran(3), 1);
         freshRuns("times 50{times 50{times 50{}}}", 5000, ENDED, 0, 5000);
+    }
+
+    private void deepBlocks() {
+        freshRuns("times 1{".repeat(8) + "fail 8;" + "}".repeat(8), 100, FAILED, 108, 17);
+        freshRuns("try{".repeat(8) + "fail 8;" + "}else{}".repeat(8) + "wash;", 100, DONE, 0, 10);
+        freshRuns("times 2{".repeat(8) + "}".repeat(8), 5000, DONE, 0, 765);
+        freshRuns("do{".repeat(8) + "air;" + "}last{wash;}".repeat(8), 100, FAILED, 3, 17);
+    }
+
+    private void singleGrains() {
+        house = Houses.sound(101);
+        house.cloth(1);
+        runs("dip 0 1;air;", 10, DONE, 0, 2);
+        checks.due("its one grain", house.ran(4), 1);
+        checks.due("is FAST", house.about(0, 2), 1);
     }
 
     private void noRuns() {
