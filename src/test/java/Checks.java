@@ -1,3 +1,4 @@
+import java.util.Arrays;
 import java.util.NoSuchElementException;
 
 /** Counts a test's answers that are not as due, and ends it with exit code 1 if there was one. */
@@ -7,6 +8,12 @@ final class Checks {
     }
 
     private int wrong;
+    private String sentence = "";
+
+    /** The document's sentence that the checks behind this hold to, for their messages. */
+    void sentence(String quoted) {
+        sentence = "\"" + quoted + "\": ";
+    }
 
     void due(String call, int got, int want) {
         if (got != want) {
@@ -22,9 +29,15 @@ final class Checks {
         mustThrow(call, made, IllegalArgumentException.class);
     }
 
+    void alike(String when, int[] got, int[] want) {
+        if (!Arrays.equals(got, want)) {
+            tell(when + " there was " + Arrays.toString(got) + ", due is " + Arrays.toString(want));
+        }
+    }
+
     void tell(String message) {
         wrong++;
-        System.out.println(message);
+        System.out.println(sentence + message);
     }
 
     void end() {

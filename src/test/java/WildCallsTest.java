@@ -3,11 +3,12 @@ import java.util.Random;
 
 /**
  * Many runs of calls with all kinds of inputs: no call throws what the document does not name for it, no grain is
- * lost or found, and what has bounds stays within them.
+ * lost or found, and what has bounds stays within them. No house has more calls than the 512 that are promised.
  */
 public final class WildCallsTest {
-    private static final int RUNS = 400;
-    private static final int CALLS = 500;
+    private static final int RUNS = 3000;
+    /** A house that is looked at takes 42 calls more, and 8 for each of at most 30 CLOTHS. */
+    private static final int CALLS = 512 - 42 - 8 * 30;
     private static final int[] EDGES = {Integer.MIN_VALUE, -1, 0, 1, 20, 21, 30, 50, 1000, 1001, 1000000,
         Integer.MAX_VALUE};
     private static final String[] PARTS = {"dip 0 1;", "dip 1 8;", "air;", "wash;", "rest 2;", "feed 1 400;", "lime 1;",
@@ -17,6 +18,7 @@ public final class WildCallsTest {
     private final Checks checks = new Checks();
     private Random random;
     private VatHouse house;
+    private int calls;
 
     public static void main(String[] args) {
         WildCallsTest test = new WildCallsTest();
@@ -30,8 +32,11 @@ public final class WildCallsTest {
         random = new Random(seed);
         house = Houses.sound(10000, 500, 90000);
         house.cloth(1 + random.nextInt(50));
-        for (int i = 0; i < CALLS; i++) {
+        calls = 11;
+        int most = 20 + random.nextInt(CALLS - 40);
+        while (calls < most) {
             int call = random.nextInt(21);
+            calls++;
             try {
                 any(call);
             } catch (NoSuchElementException thrown) {
@@ -43,8 +48,8 @@ public final class WildCallsTest {
                     checks.tell("seed " + seed + ", call " + call + " threw " + thrown);
                 }
             }
-            staysWhole(seed, i);
         }
+        staysWhole(seed);
     }
 
     private static boolean mayBeIllegal(int call) {
@@ -90,6 +95,7 @@ public final class WildCallsTest {
             text.append(random.nextBoolean() ? "}" : random.nextBoolean() ? "}else{}" : "}last{air;}");
         }
         Houses.read(house, random.nextInt(3), text.toString());
+        calls += (text.length() + 19) / 20 + 2;
         return house.run(random.nextInt(3), 0, 1 + random.nextInt(300));
     }
 
@@ -101,23 +107,25 @@ public final class WildCallsTest {
         return random.nextBoolean() ? EDGES[random.nextInt(EDGES.length)] : random.nextInt(100);
     }
 
-    private void staysWhole(int seed, int call) {
-        int grains = house.count(1);
-        boolean bounded = true;
-        for (int vat = 0; vat < 6; vat++) {
-            grains += house.vat(vat, 0);
-            bounded &= house.vat(vat, 0) >= 0 && house.vat(vat, 0) <= 1000000;
-            bounded &= house.vat(vat, 1) >= 0 && house.vat(vat, 1) <= 1000;
-            bounded &= house.vat(vat, 2) >= 0 && house.vat(vat, 3) >= 0 && house.vat(vat, 3) <= 2;
+    private void staysWhole(int seed) {
+        int[] seen = Houses.seen(house);
+        int cloths = (seen.length - 42) / 8;
+        int grains = seen[seen.length - 5];
+        boolean bounded = cloths <= 30;
+        for (int at = 0; at < 36; at += 6) {
+            grains += seen[at];
+            bounded &= seen[at] >= 0 && seen[at] <= 1000000 && seen[at + 1] >= 0 && seen[at + 1] <= 1000;
+            bounded &= seen[at + 2] >= 0 && seen[at + 3] >= 0 && seen[at + 3] <= 2;
         }
-        for (int cloth = 0; cloth < house.count(2); cloth++) {
-            int held = house.about(cloth, 1) + house.about(cloth, 2);
+        for (int at = 36; at < 36 + 8 * cloths; at += 8) {
+            int held = seen[at + 1] + seen[at + 2];
             grains += held;
-            bounded &= held <= 200 * house.about(cloth, 0) && house.about(cloth, 1) >= 0 && house.about(cloth, 2) >= 0;
+            bounded &= held <= 200 * seen[at] && seen[at + 1] >= 0 && seen[at + 2] >= 0;
+            bounded &= seen[at + 3] == seen[at + 2] / seen[at];
         }
-        checks.due("seed " + seed + ", grains behind call " + call, grains, house.count(3));
+        checks.due("seed " + seed + ", grains in all", grains, seen[seen.length - 3]);
         if (!bounded) {
-            checks.tell("seed " + seed + ", out of bounds behind call " + call);
+            checks.tell("seed " + seed + ", out of bounds");
         }
     }
 }
