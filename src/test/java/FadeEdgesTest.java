@@ -34,7 +34,8 @@ public final class FadeEdgesTest {
     }
 
     private void bothAreCutDown() {
-        checks.sentence("from its SHADE less 3 * d / 100, to its SHADE less d / 100 (both cut down, the SHADES 0 at least)");
+        checks.sentence("from its SHADE less 3 * d / 100, to its SHADE less d / 100 (both cut down, "
+            + "the SHADES 0 at least)");
         int[] shades = {0, 1, 2, 3, 174, 175};
         VatHouse house = withShades(shades);
         for (int i = 0; i < shades.length; i++) {

@@ -338,7 +338,8 @@ public final class RunEdgesTest {
         String[] failing = {"dip 1 5;", "dip 0 1;air;air;", "air;", "lime 0;", "feed 0 600;", "fail 1;"};
         for (String steps : failing) {
             fresh();
-            checks.due("caught " + steps, Houses.runText(house, "try{" + steps + "wash;}else{rest 3;}rest 1;", 99), DONE);
+            String text = "try{" + steps + "wash;}else{rest 3;}rest 1;";
+            checks.due("run of " + text, Houses.runText(house, text, 99), DONE);
             checks.due("HOURS by the second one and behind it", house.ran(5), 4);
             checks.due("no FAILURE is told", house.ran(1), 0);
         }
