@@ -1,4 +1,4 @@
-/** The edges of the numbers that the calls of promises 2 to 18 take: of VATS, CLOTHS, RECIPES, hours and bytes, what. */
+/** The edges of the numbers that promises 2 to 18 take: of VATS, CLOTHS, RECIPES, hours and bytes, and what. */
 public final class InputEdgesTest {
     private static final int MIN = Integer.MIN_VALUE;
     private static final int MAX = Integer.MAX_VALUE;
